@@ -18,6 +18,7 @@ public final class HeardSlots {
     private static final int TRIES_LIMIT = 9;
 
     private static final int NOTHING = 0, ASK = 1, GRANT = 2, PART = 3, TOLD = 4;
+    private static final int LETTERS = 0, SENT = 1, DROPPED = 2, CLASHES = 3;
 
     private final char[] text;
     private int textLength;
@@ -133,9 +134,9 @@ public final class HeardSlots {
             return NO;
         }
         remember();
-        int before = net.totalSent();
+        int before = net.totalOf(SENT);
         net.passSlots(n);
-        return net.totalSent() - before;
+        return net.totalOf(SENT) - before;
     }
 
     public int undo() {
@@ -233,21 +234,21 @@ public final class HeardSlots {
         trial.copyFrom(net);
         trial.passSlots(n);
         switch (what) {
-            case 0: return trial.totalSent() - net.totalSent();
-            case 1: return trial.totalDropped() - net.totalDropped();
-            case 2: return trial.totalClashes() - net.totalClashes();
+            case 0: return trial.totalOf(SENT) - net.totalOf(SENT);
+            case 1: return trial.totalOf(DROPPED) - net.totalOf(DROPPED);
+            case 2: return trial.totalOf(CLASHES) - net.totalOf(CLASHES);
             case 3: return mostSentInTrial();
             case 4: return leastSentInTrial();
-            default: return trial.totalLetters();
+            default: return trial.totalOf(LETTERS);
         }
     }
 
     public int soon() {
-        int before = net.totalSent();
+        int before = net.totalOf(SENT);
         trial.copyFrom(net);
         for (int n = 1; n <= STEP_LIMIT; n++) {
             trial.passSlots(1);
-            if (trial.totalSent() > before) {
+            if (trial.totalOf(SENT) > before) {
                 return n;
             }
         }
@@ -260,10 +261,10 @@ public final class HeardSlots {
             case 1: return net.pairsOf(0);
             case 2: return net.pairsOf(1);
             case 3: return net.slots;
-            case 4: return net.totalLetters();
-            case 5: return net.totalSent();
-            case 6: return net.totalDropped();
-            case 7: return net.totalClashes();
+            case 4: return net.totalOf(LETTERS);
+            case 5: return net.totalOf(SENT);
+            case 6: return net.totalOf(DROPPED);
+            case 7: return net.totalOf(CLASHES);
             case 8: return net.seed;
             case 9: return net.least;
             case 10: return net.most;
@@ -488,6 +489,15 @@ public final class HeardSlots {
             owed.copyFrom(other.owed);
         }
 
+        int tallyOf(int tally) {
+            switch (tally) {
+                case LETTERS: return row.size;
+                case SENT: return sent;
+                case DROPPED: return dropped;
+                default: return clashes;
+            }
+        }
+
         /** Puts into out what is sent; owed and parts move on by it. */
         void send(int kind) {
             if (kind == NOTHING) {
@@ -666,34 +676,10 @@ public final class HeardSlots {
             return length >= askedFrom;
         }
 
-        int totalLetters() {
+        int totalOf(int tally) {
             int total = 0;
             for (int i = 0; i < stations; i++) {
-                total += all[i].row.size;
-            }
-            return total;
-        }
-
-        int totalSent() {
-            int total = 0;
-            for (int i = 0; i < stations; i++) {
-                total += all[i].sent;
-            }
-            return total;
-        }
-
-        int totalDropped() {
-            int total = 0;
-            for (int i = 0; i < stations; i++) {
-                total += all[i].dropped;
-            }
-            return total;
-        }
-
-        int totalClashes() {
-            int total = 0;
-            for (int i = 0; i < stations; i++) {
-                total += all[i].clashes;
+                total += all[i].tallyOf(tally);
             }
             return total;
         }

@@ -1,5 +1,8 @@
 /** What the tests share: counting answers that are not due, and writing a text letter by letter. */
 final class Check {
+    /** Beside 0 to 5: just below, just above, and such as come to 0 or 1 when cut to five or more bits. */
+    static final int[] NO_STATIONS = {-1, 6, 32, 33, 64, 256, 65536, -32, Integer.MIN_VALUE, Integer.MAX_VALUE};
+
     private static int calls = 0;
     private static int wrong = 0;
 
